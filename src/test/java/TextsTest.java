@@ -9,6 +9,7 @@ final class TextsTest {
     type();
     typeAllSigns();
     typeUpTo80();
+    typeEachTo80();
     typeWrong();
     noText();
     text();
@@ -62,6 +63,18 @@ final class TextsTest {
     check.due("51: its length", x.house(2), 80);
     check.due("43: noText", x.noText(), 80);
     check.due("42: from the start", x.type(9, -1, -1, -1, -1, -1), 1);
+  }
+
+  /** Each of the six counts once, wherever it stands. */
+  private static void typeEachTo80() {
+    for (int at = 0; at < 6; at++) {
+      Bitwords x = Check.type(new Bitwords(), "1".repeat(79));
+      int[] s = {-1, -1, -1, -1, -1, -1};
+      s[at] = 9;
+      check.due("42: the 80th at " + at, x.type(s[0], s[1], s[2], s[3], s[4], s[5]), 80);
+      check.due("44: hand", x.hand(), "1".repeat(79) + "9");
+      check.fails("42: the 81st at " + at, x, Check.STATE, () -> x.type(s[0], s[1], s[2], s[3], s[4], s[5]));
+    }
   }
 
   private static void typeWrong() {
