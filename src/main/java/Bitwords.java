@@ -761,7 +761,7 @@ public final class Bitwords {
 
     static long rotated(int size, long w, int by) {
       int up = by & (size - 1);
-      // A shift by 64 would be one by 0: without this, 0 and the whole SIZE would be mixed up.
+      // The shift down would be one by 64 then, which Java takes as one by 0.
       if (up == 0) {
         return w;
       }

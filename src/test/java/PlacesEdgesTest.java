@@ -499,13 +499,18 @@ final class PlacesEdgesTest {
     }
   }
 
-  /** From 2^p - 1 to 2^p, p from 0 on: what changes is at p, and this is the first step at which it does. */
+  /** From 2^p - 1 to 2^p what changes is at p, for the first time; and always at 0, or above the least ONE. */
   private static void stepEnds() {
     for (boolean isLong : Edges.KINDS) {
       for (int p = 0; p < Edges.sizeOf(isLong); p++) {
         long from = p == 0 ? 0 : 1L << (p - 1);
         Bitwords x = Edges.of(isLong, from);
         edges.makes("from 2^" + p + " - 1", x, isLong, x.step(isLong, 0), p, from | (1L << p));
+      }
+      for (int p = 0; p < Edges.sizeOf(isLong) - 2; p++) {
+        long from = 1L << p | Edges.top(isLong) | Edges.top(isLong) >>> 1;
+        Bitwords x = Edges.of(isLong, from);
+        edges.makes("least ONE at " + p, x, isLong, x.step(isLong, 0), p + 1, from ^ (2L << p));
       }
       Bitwords x = Edges.of(isLong, Edges.all(isLong));
       edges.makes("from all", x, isLong, x.step(isLong, 0), 0, Edges.all(isLong) - 1);

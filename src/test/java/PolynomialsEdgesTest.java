@@ -23,6 +23,7 @@ final class PolynomialsEdgesTest {
     edges.says(39, NO_WORDS, PolynomialsEdgesTest::divideOfNoWord);
     edges.says(39, NO_WORDS, PolynomialsEdgesTest::divideByNoWord);
     edges.says(40, "that of the greatest DEGREE of which both are products", PolynomialsEdgesTest::gcdEnds);
+    edges.says(40, "A WORD becomes the greatest common divisor", PolynomialsEdgesTest::gcdOfTheMostDivisions);
     edges.says(40, "(the other one, if one is EMPTY)", PolynomialsEdgesTest::gcdOfEmpty);
     edges.says(40, "Returns DEGREE.", PolynomialsEdgesTest::gcdOfItself);
     edges.says(40, NO_WORDS, PolynomialsEdgesTest::gcdOfNoWord);
@@ -263,6 +264,21 @@ final class PolynomialsEdgesTest {
       dueGcd(isLong, all, 5, 5);
       dueGcd(isLong, all, everyOther(isLong), everyOther(isLong));
       dueGcd(isLong, all, top | 1, 3);
+    }
+  }
+
+  /** Each is x times the one before it and the one before that, so each division lowers the DEGREE by 1 alone. */
+  private static void gcdOfTheMostDivisions() {
+    for (boolean isLong : Edges.KINDS) {
+      long before = 0;
+      long now = 1;
+      for (int degree = 1; degree < Edges.sizeOf(isLong); degree++) {
+        long next = (now << 1) ^ before;
+        before = now;
+        now = next;
+        dueGcd(isLong, before, now, 1);
+      }
+      edges.due("the greatest DEGREE", degreeOf(now), Edges.sizeOf(isLong) - 1);
     }
   }
 

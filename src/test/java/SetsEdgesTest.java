@@ -260,8 +260,18 @@ final class SetsEdgesTest {
     }
   }
 
+  /** One unlike digit is enough, at whichever PLACE. */
   private static void areTheSame() {
     dueSo(0, 1, 0, 0, 0, 0, 1, 0, 0, 0, 0, 1, 0, 0, 0, 0, 1);
+    for (boolean isLong : Edges.KINDS) {
+      for (int p = 0; p < Edges.sizeOf(isLong); p++) {
+        long w = 0x0123456789abcdefL & Edges.all(isLong);
+        Bitwords x = Edges.of(isLong, w, w ^ (1L << p), 1L << p, 1L << (p * 2 % Edges.sizeOf(isLong)));
+        edges.due(Edges.nameOf(isLong) + ", unlike at " + p, x.areSo(isLong, 0, 1, 0), false);
+        edges.due(Edges.nameOf(isLong) + ", itself", x.areSo(isLong, 1, 1, 0), true);
+        edges.due(Edges.nameOf(isLong) + ", shuffled from " + p, x.areSo(isLong, 2, 3, 0), p == 0);
+      }
+    }
   }
 
   private static void haveNoneInCommon() {
@@ -276,19 +286,27 @@ final class SetsEdgesTest {
     dueSo(3, 1, 0, 0, 0, 0, 0, 1, 0, 0, 1, 0, 0, 0, 0, 0, 1);
   }
 
-  /** The PLACES 0 and SIZE - 1 stay where they are; what is at 1 comes to 2, 4 and so on, and at last to 1. */
+  /** Of each pair of PLACES: one comes to the other, or never does. */
   private static void isShuffled() {
     dueSo(4, 1, 0, 0, 0, 0, 1, 0, 0, 0, 0, 1, 0, 0, 0, 0, 1);
     for (boolean isLong : Edges.KINDS) {
-      for (int p = 1; p < Edges.sizeOf(isLong) - 1; p++) {
-        Bitwords x = Edges.of(isLong, 1L << p, 2, 1, Edges.top(isLong));
-        boolean isPower = Integer.bitCount(p) == 1;
-        edges.due(Edges.nameOf(isLong) + ", " + p + " and 1", x.areSo(isLong, 0, 1, 4), isPower);
-        edges.due(Edges.nameOf(isLong) + ", 1 and " + p, x.areSo(isLong, 1, 0, 4), isPower);
-        edges.due(Edges.nameOf(isLong) + ", " + p + " and 0", x.areSo(isLong, 0, 2, 4), false);
-        edges.due(Edges.nameOf(isLong) + ", " + p + " and the last", x.areSo(isLong, 0, 3, 4), false);
+      int size = Edges.sizeOf(isLong);
+      for (int p = 0; p < size; p++) {
+        for (int q = 0; q < size; q++) {
+          Bitwords x = Edges.of(isLong, 1L << p, 1L << q);
+          String call = Edges.nameOf(isLong) + ", " + p + " and " + q;
+          edges.due(call, x.areSo(isLong, 0, 1, 4), comesTo(q, p, size));
+        }
       }
     }
+  }
+
+  private static boolean comesTo(int from, int to, int size) {
+    int place = from;
+    for (int times = 0; times < size && place != to; times++) {
+      place = place < size / 2 ? 2 * place : 2 * (place - size / 2) + 1;
+    }
+    return place == to;
   }
 
   private static void areSoOfNoWord() {
