@@ -1,51 +1,80 @@
 import java.lang.reflect.InvocationTargetException;
 import java.lang.reflect.Method;
+import java.lang.reflect.Modifier;
+import java.math.BigInteger;
 import java.util.Arrays;
 import java.util.HashSet;
 import java.util.Set;
 
-/** The boundaries in the description, sentence by sentence: what holds for more than one promise. */
+/** The description, sentence by sentence: what holds for more than one promise. */
 final class DescriptionEdgesTest {
   private static final int OF_ALL = Edges.DESCRIPTION;
   private static final String SIGNS = "0123456789abcdefghijklmnopqrstuvwxyz-+#";
   private static final Edges edges = new Edges();
 
   public static void main(String[] args) {
-    edges.says(OF_ALL, "NONE is -1.", DescriptionEdgesTest::none);
+    edges.says(OF_ALL, "Whole numbers. NONE is -1.", DescriptionEdgesTest::none);
     edges.says(OF_ALL, "REFUSED is -9: it is told where a method names it", DescriptionEdgesTest::refused);
     edges.says(OF_ALL, "nothing changes then but what is counted", DescriptionEdgesTest::refusedChangesNothing);
-    edges.says(OF_ALL, "A method that throws an exception changes nothing.", DescriptionEdgesTest::whatThrowsChangesNothing);
-    edges.says(OF_ALL, "If several exceptions apply, the one that is named first is thrown", DescriptionEdgesTest::firstNamed);
+    edges.says(OF_ALL, "A method that throws an exception changes nothing.",
+        DescriptionEdgesTest::whatThrowsChangesNothing);
+    edges.says(OF_ALL, "If several exceptions apply, the one that is named first is thrown",
+        DescriptionEdgesTest::firstNamed);
     edges.says(OF_ALL, "exceptions go ahead of REFUSED", DescriptionEdgesTest::exceptionsAheadOfRefused);
     edges.says(OF_ALL, "LONGS 0 to 3 have the SIZE 64, SHORTS 0 to 3 the SIZE 32", DescriptionEdgesTest::sizes);
-    edges.says(OF_ALL, "(isLong tells which kind, k its number)", DescriptionEdgesTest::eachWordAlone);
+    edges.says(OF_ALL, "a WORD is one of these (isLong tells which kind, k its number)",
+        DescriptionEdgesTest::eachWordAlone);
+    edges.says(OF_ALL, "A WORD has at each PLACE from 0 to SIZE - 1 a digit, 0 or 1",
+        DescriptionEdgesTest::eachPlaceAlone);
     edges.says(OF_ALL, "a digit, 0 or 1 (all 0 at first)", DescriptionEdgesTest::allZeroAtFirst);
+    edges.says(OF_ALL, "ONES are the PLACES with a 1.", DescriptionEdgesTest::placesWithAOne);
     edges.says(OF_ALL, "It is EMPTY without ONES.", DescriptionEdgesTest::emptyAgain);
+    edges.says(OF_ALL, "Its NUMBER is the sum of 2^p over its ONES p", DescriptionEdgesTest::numberIsASum);
     edges.says(OF_ALL, "from 0 to 2^SIZE - 1", DescriptionEdgesTest::numbers);
-    edges.says(OF_ALL, "2^SIZE less, if SIZE - 1 is one of its ONES", DescriptionEdgesTest::signedNumbers);
-    edges.says(OF_ALL, "the WORD whose NUMBER is the rest of that by 2^SIZE (from 0 on)", DescriptionEdgesTest::restBySize);
-    edges.says(OF_ALL, "taken are 0 or 1, and 1 and 1 is 0", DescriptionEdgesTest::oneAndOne);
+    edges.says(OF_ALL, "Its SIGNED number is that, 2^SIZE less, if SIZE - 1 is one of its ONES",
+        DescriptionEdgesTest::signedNumbers);
+    edges.says(OF_ALL,
+        "To become a number is to become the WORD whose NUMBER is the rest of that by 2^SIZE (from 0 on)",
+        DescriptionEdgesTest::restBySize);
+    edges.says(OF_ALL, "As a POLYNOMIAL it is the sum of x^p over its ONES p", DescriptionEdgesTest::polynomialIsASum);
+    edges.says(OF_ALL, "numbers by which a power of x is taken are 0 or 1, and 1 and 1 is 0",
+        DescriptionEdgesTest::oneAndOne);
     edges.says(OF_ALL, "DEGREE is its greatest one (NONE of an EMPTY one).", DescriptionEdgesTest::degrees);
-    edges.says(OF_ALL, "tells how many ONES it has then, if nothing else is said", DescriptionEdgesTest::tellsOnes);
-    edges.says(OF_ALL, "they are of the same kind, if nothing else is said", DescriptionEdgesTest::sameKind);
+    edges.says(OF_ALL, "A method that changes a WORD tells how many ONES it has then, if nothing else is said",
+        DescriptionEdgesTest::tellsOnes);
+    edges.says(OF_ALL, "Where two WORDS are named, they are of the same kind, if nothing else is said",
+        DescriptionEdgesTest::sameKind);
     edges.says(OF_ALL, "and may be the same one", DescriptionEdgesTest::sameWord);
-    edges.says(OF_ALL, "(that is p + 2^b, or p - 2^b)", DescriptionEdgesTest::swapOfEachPlace);
-    edges.says(OF_ALL, "what is at p comes to 2 * p, if p is below SIZE / 2", DescriptionEdgesTest::shuffleOfTheLower);
+    edges.says(OF_ALL,
+        "To SWAP by a WIDTH b: what is at p comes to the PLACE p, with the digit 2^b of its number turned",
+        DescriptionEdgesTest::swapOfEachPlace);
+    edges.says(OF_ALL, "(that is p + 2^b, or p - 2^b)", DescriptionEdgesTest::swapUpAndDown);
+    edges.says(OF_ALL, "To SHUFFLE: what is at p comes to 2 * p, if p is below SIZE / 2",
+        DescriptionEdgesTest::shuffleOfTheLower);
     edges.says(OF_ALL, "and otherwise to 2 * (p - SIZE / 2) + 1", DescriptionEdgesTest::shuffleOfTheHigher);
     edges.says(OF_ALL, "to shuffle back undoes that", DescriptionEdgesTest::shuffleBack);
     edges.says(OF_ALL, "RANK of p (0 to SIZE): how many ONES are below p.", DescriptionEdgesTest::ranks);
     edges.says(OF_ALL, "SELECT n: the ONE below which there are n others.", DescriptionEdgesTest::selects);
-    edges.says(OF_ALL, "at p the digit xor that at p + 1 (0 beyond the last one)", DescriptionEdgesTest::grayOfEachPlace);
+    edges.says(OF_ALL, "GRAY of a WORD: at p the digit xor that at p + 1 (0 beyond the last one)",
+        DescriptionEdgesTest::grayOfEachPlace);
+    edges.says(OF_ALL, "To go a STEP: of the WORD that is the GRAY of the NUMBER n it becomes the GRAY of n + 1",
+        DescriptionEdgesTest::stepFromGrayToGray);
     edges.says(OF_ALL, "(of the greatest one that of 0)", DescriptionEdgesTest::stepBeyond);
     edges.says(OF_ALL, "The TEXT in HAND (\"\" at first) has at most 80 signs.", DescriptionEdgesTest::textTo80);
-    edges.says(OF_ALL, "0 to 9 the digits, 10 to 35 the letters \"a\" to \"z\", 36 \"-\", 37 \"+\", 38 \"#\"",
+    edges.says(OF_ALL,
+        "It is typed by numbers: 0 to 9 the digits, 10 to 35 the letters \"a\" to \"z\", 36 \"-\", 37 \"+\", 38 \"#\"",
         DescriptionEdgesTest::signs);
-    edges.says(OF_ALL, "Digits by a BASE (2 to 36) are the first BASE of these 36 signs", DescriptionEdgesTest::digits);
-    edges.says(OF_ALL, "it may begin with \"-\" or \"+\"", DescriptionEdgesTest::readWithSign);
+    edges.says(OF_ALL, "Digits by a BASE (2 to 36) are the first BASE of these 36 signs, by what they stand for.",
+        DescriptionEdgesTest::digits);
+    edges.says(OF_ALL, "READ by a BASE is a TEXT so: it may begin with \"-\" or \"+\"",
+        DescriptionEdgesTest::readWithSign);
     edges.says(OF_ALL, "then come one digit by the BASE or more", DescriptionEdgesTest::readOneDigit);
     edges.says(OF_ALL, "the greatest one first (0 may stand ahead)", DescriptionEdgesTest::readWithZeros);
     edges.says(OF_ALL, "and nothing else", DescriptionEdgesTest::readNothingElse);
+    edges.says(OF_ALL, "It is what these tell as a number by the BASE", DescriptionEdgesTest::readDigitByDigit);
     edges.says(OF_ALL, "below 0 with \"-\"", DescriptionEdgesTest::readBelow0);
+    edges.says(OF_ALL, "The constructor and the methods follow, a promise each: the signature, then what it does.",
+        DescriptionEdgesTest::aPromiseEach);
     edges.end(OF_ALL, OF_ALL);
   }
 
@@ -112,7 +141,7 @@ final class DescriptionEdgesTest {
    */
   private static void whatThrowsChangesNothing() {
     for (Method method : Bitwords.class.getDeclaredMethods()) {
-      if (method.getExceptionTypes().length > 0 && java.lang.reflect.Modifier.isPublic(method.getModifiers())) {
+      if (method.getExceptionTypes().length > 0 && Modifier.isPublic(method.getModifiers())) {
         Set<Class<?>> seen = new HashSet<>();
         for (int alike = -2; alike <= 5; alike++) {
           for (int far : new int[] {Edges.MIN, -3, alike, 100, Edges.MAX}) {
@@ -220,6 +249,44 @@ final class DescriptionEdgesTest {
     }
   }
 
+  /** Set, and seen at no other PLACE, and in no other WORD. */
+  private static void eachPlaceAlone() {
+    for (boolean isLong : Edges.KINDS) {
+      int size = Edges.sizeOf(isLong);
+      for (int place = 0; place < size; place++) {
+        int k = place % 4;
+        Bitwords x = new Bitwords();
+        x.set(isLong, k, place, true);
+        for (int other = 0; other < size; other++) {
+          edges.due(place + " set, that at " + other, x.digit(isLong, k, other), other == place ? 1 : 0);
+        }
+        edges.due("ONES of all", x.house(3), 1);
+        x.set(isLong, k, place, false);
+        edges.due("ONES of all, with 0 again", x.house(3), 0);
+      }
+    }
+  }
+
+  /** Told as a row, one after the other, by how many there are, and by the first and the last. */
+  private static void placesWithAOne() {
+    for (boolean isLong : Edges.KINDS) {
+      int last = Edges.sizeOf(isLong) - 1;
+      for (int p = 1; p < last; p++) {
+        int[] ones = {0, p, last};
+        Bitwords x = new Bitwords();
+        for (int one : ones) {
+          x.set(isLong, 0, one, true);
+        }
+        for (int n = 0; n < ones.length; n++) {
+          edges.due("ONE " + n + " with that at " + p, x.select(isLong, 0, n), ones[n]);
+        }
+        edges.due("how many", x.ofWord(isLong, 0, 0), 3);
+        edges.due("the least", x.ofWord(isLong, 0, 4), 0);
+        edges.due("beyond the last", x.select(isLong, 0, 3), Edges.NONE);
+      }
+    }
+  }
+
   private static void emptyAgain() {
     for (boolean isLong : Edges.KINDS) {
       for (int place : new int[] {0, 31, Edges.sizeOf(isLong) - 1}) {
@@ -236,6 +303,24 @@ final class DescriptionEdgesTest {
   private static void dueTold(int what, boolean isLong, long w, String want) {
     Bitwords x = Edges.of(isLong, w);
     edges.due(Edges.nameOf(isLong) + " " + Long.toHexString(w), x.text(isLong, 0, what), want);
+  }
+
+  /** Of each ONE alone, and one more each time. */
+  private static void numberIsASum() {
+    for (boolean isLong : Edges.KINDS) {
+      BigInteger sum = BigInteger.ZERO;
+      Bitwords x = new Bitwords();
+      for (int p = 0; p < Edges.sizeOf(isLong); p++) {
+        int place = p * 13 % Edges.sizeOf(isLong);
+        BigInteger power = BigInteger.TWO.pow(place);
+        sum = sum.add(power);
+        x.set(isLong, 0, place, true);
+        edges.due("with that at " + place, x.text(isLong, 0, 3), sum.toString());
+        Bitwords y = new Bitwords();
+        y.set(isLong, 0, place, true);
+        edges.due("that at " + place + " alone", y.text(isLong, 0, 3), power.toString());
+      }
+    }
   }
 
   private static void numbers() {
@@ -264,6 +349,23 @@ final class DescriptionEdgesTest {
       edges.makes("-1", x, isLong, x.plus(isLong, 0, 1, true), Edges.sizeOf(isLong), all);
       edges.makes("(2^SIZE - 1) * 2", x, isLong, x.times(isLong, 0, 2, false), Edges.sizeOf(isLong) - 1, all - 1);
       edges.makes("2 less 2^SIZE", x, isLong, x.negate(isLong, 0), 1, 2);
+    }
+  }
+
+  /** x^p by x^q is x^(p + q), and by 1 and x^q it is x^p and x^(p + q). */
+  private static void polynomialIsASum() {
+    for (boolean isLong : Edges.KINDS) {
+      int size = Edges.sizeOf(isLong);
+      for (int p = 0; p < size; p++) {
+        for (int q = 1; q < size; q++) {
+          long both = p + q < size ? 1L << (p + q) : 0;
+          Bitwords x = Edges.of(isLong, 1L << p, 1L << q);
+          String call = "x^" + p + " by x^" + q;
+          edges.makes(call, x, isLong, x.polyTimes(isLong, 0, 1), Edges.onesOf(both), both);
+          Bitwords y = Edges.of(isLong, 1L << p, 1L << q | 1);
+          edges.makes(call + " + 1", y, isLong, y.polyTimes(isLong, 0, 1), Edges.onesOf(both) + 1, both | 1L << p);
+        }
+      }
     }
   }
 
@@ -352,6 +454,25 @@ final class DescriptionEdgesTest {
     }
   }
 
+  /** With a ONE at both PLACES nothing changes; with all ONES of which 2^b is in the number, all that are without. */
+  private static void swapUpAndDown() {
+    for (boolean isLong : Edges.KINDS) {
+      for (int b = 0; b < (isLong ? 6 : 5); b++) {
+        long with = 0;
+        for (int p = 0; p < Edges.sizeOf(isLong); p++) {
+          with |= (p & 1 << b) != 0 ? 1L << p : 0;
+        }
+        long without = Edges.all(isLong) - with;
+        Bitwords x = Edges.of(isLong, with);
+        edges.makes("down by " + b, x, isLong, x.swap(isLong, 0, b), 0, without);
+        edges.makes("up by " + b, x, isLong, x.swap(isLong, 0, b), 1 << b, with);
+        long pair = 1L | 1L << (1 << b);
+        Bitwords y = Edges.of(isLong, pair);
+        edges.makes("both by " + b, y, isLong, y.swap(isLong, 0, b), 0, pair);
+      }
+    }
+  }
+
   private static void shuffleOfTheLower() {
     for (boolean isLong : Edges.KINDS) {
       for (int p = 0; p < Edges.sizeOf(isLong) / 2; p++) {
@@ -416,6 +537,28 @@ final class DescriptionEdgesTest {
         Bitwords x = Edges.of(isLong, 1L << p);
         edges.makes("of that at " + p, x, isLong, x.gray(isLong, 0, false), Edges.onesOf(then), then);
         edges.makes("and back", x, isLong, x.gray(isLong, 0, true), 1, 1L << p);
+      }
+    }
+  }
+
+  private static void stepFromGrayToGray() {
+    for (boolean isLong : Edges.KINDS) {
+      for (int p = 0; p < Edges.sizeOf(isLong); p++) {
+        for (long n = Math.max(0, (1L << p) - 3); n != (1L << p) + 3; n++) {
+          long number = n & Edges.all(isLong);
+          long next = (number + 1) & Edges.all(isLong);
+          Bitwords x = Edges.of(isLong, number, next);
+          x.gray(isLong, 0, false);
+          x.gray(isLong, 1, false);
+          x.step(isLong, 0);
+          edges.due(Edges.nameOf(isLong) + " from " + number, x.areSo(isLong, 0, 1, 0), true);
+          edges.makes("back", x, isLong, x.gray(isLong, 0, true), Edges.onesOf(next), next);
+        }
+      }
+      Bitwords x = new Bitwords();
+      for (int n = 1; n <= 300; n++) {
+        x.step(isLong, 0);
+        edges.due(Edges.nameOf(isLong) + ", " + n + " from 0", x.ofWord(isLong, 0, 6), n ^ n >> 1);
       }
     }
   }
@@ -524,11 +667,52 @@ final class DescriptionEdgesTest {
     dueRead("1z", 36, 71);
   }
 
+  /** Rows of digits that all differ, by each BASE that has them. */
+  private static void readDigitByDigit() {
+    String[] texts = {"10", "102", "1203", "3210", "98765", "10a", "zyx", "a0z9", "0zik", "1z141z"};
+    for (String text : texts) {
+      for (int base = 2; base <= 36; base++) {
+        int number = 0;
+        boolean isDigits = true;
+        for (char sign : text.toCharArray()) {
+          isDigits = isDigits && SIGNS.indexOf(sign) < base;
+          number = number * base + SIGNS.indexOf(sign);
+        }
+        if (isDigits) {
+          dueRead(text, base, number);
+          dueRead("-" + text, base, -number);
+        } else {
+          dueNotRead(text, base);
+        }
+      }
+    }
+  }
+
   private static void readBelow0() {
     dueRead("-0", 10, 0);
     dueRead("-1", 10, -1);
     dueRead("-2147483648", 10, Edges.MIN);
     dueRead("2147483647", 10, Edges.MAX);
     dueRead("+2147483647", 10, Edges.MAX);
+  }
+
+  // ---- the promises
+
+  /** Promise 1 is the constructor; each other one is a method, and there are no others. */
+  private static void aPromiseEach() {
+    Set<String> methods = new HashSet<>();
+    for (Method method : Bitwords.class.getDeclaredMethods()) {
+      if (Modifier.isPublic(method.getModifiers())) {
+        methods.add(method.getName());
+      }
+    }
+    edges.due("the constructor and the methods", methods.size() + 1, 54);
+    Document document = Document.ofProperty();
+    for (int promise = 2; promise <= document.promises(); promise++) {
+      String signature = document.signatureOf(promise);
+      String name = signature.substring(signature.indexOf(' ') + 1, signature.indexOf('('));
+      edges.due("promise " + promise + " is a method, " + name, methods.remove(name), true);
+    }
+    edges.due("without a promise", document.promises() == 0 ? Set.of() : methods, Set.of());
   }
 }

@@ -28,6 +28,40 @@ final class Document {
     return lines.isEmpty() || linesOf(promise).stream().anyMatch(line -> line.contains(sentence));
   }
 
+  /** What is said in a promise: no signature, no headings, and none of its arguments (see ArgumentsTest). */
+  List<String> sentencesOf(int promise) {
+    List<String> found = new ArrayList<>(linesOf(promise));
+    found.removeIf(line -> line.startsWith("`") || line.startsWith("- `") || line.startsWith("----")
+        || line.matches("\\d\\. [A-Za-z]+"));
+    return found;
+  }
+
+  /** The names of the arguments that a promise tells of, in their order. */
+  List<String> argumentsOf(int promise) {
+    List<String> found = new ArrayList<>();
+    for (String line : linesOf(promise)) {
+      if (line.startsWith("- `")) {
+        found.add(line.substring(3, line.indexOf('`', 3)));
+      }
+    }
+    return found;
+  }
+
+  /** The signature of a promise, without the signs around it. */
+  String signatureOf(int promise) {
+    for (String line : linesOf(promise)) {
+      if (line.startsWith("`")) {
+        return line.substring(1, line.length() - 1);
+      }
+    }
+    return "";
+  }
+
+  /** How many promises there are, 0 if there is no document to look into. */
+  int promises() {
+    return (int) lines.stream().filter(line -> line.startsWith("## Promise ")).count();
+  }
+
   List<String> linesOf(int promise) {
     String heading = promise == Edges.DESCRIPTION ? "## Description" : "## Promise " + promise + ":";
     List<String> found = new ArrayList<>();

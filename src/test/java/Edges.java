@@ -1,4 +1,5 @@
 import java.util.ArrayList;
+import java.util.Arrays;
 import java.util.List;
 import java.util.Map;
 import java.util.TreeMap;
@@ -15,7 +16,7 @@ final class Edges {
   static final int MAX = Integer.MAX_VALUE;
   static final boolean[] KINDS = {true, false};
 
-  /** A line of a promise with one of these tells of a boundary, or of what is refused: a test must quote it. */
+  /** A line of a promise with one of these tells of a boundary, or of what is refused: a test must quote that. */
   private static final String[] MARKS = {"Throws", "REFUSED", "NONE", "EMPTY", "SIZE"};
 
   /** A call with the number of a word, and one with any other number. */
@@ -135,7 +136,7 @@ final class Edges {
     return Long.bitCount(digits);
   }
 
-  /** Ends the program: each promise from the first to the last must have its boundaries quoted. */
+  /** Ends the program: each promise from the first to the last must have its sentences quoted, to the last word. */
   void end(int first, int last) {
     for (int promise = first; promise <= last; promise++) {
       List<String> quoted = quotes.getOrDefault(promise, List.of());
@@ -146,7 +147,27 @@ final class Edges {
           check.due(promise + ": " + mark + " in '" + line + "' is quoted", isQuoted, line.contains(mark));
         }
       }
+      for (String sentence : document.sentencesOf(promise)) {
+        check.due(promise + ": what no test quotes of '" + sentence + "'", unquoted(sentence, quoted), "");
+      }
     }
     check.end();
+  }
+
+  /** The letters and numbers of a sentence that stand in none of the quotes. */
+  private static String unquoted(String sentence, List<String> quoted) {
+    boolean[] isQuoted = new boolean[sentence.length()];
+    for (String quote : quoted) {
+      for (int at = sentence.indexOf(quote); at >= 0; at = sentence.indexOf(quote, at + 1)) {
+        Arrays.fill(isQuoted, at, at + quote.length(), true);
+      }
+    }
+    StringBuilder left = new StringBuilder();
+    for (int i = 0; i < isQuoted.length; i++) {
+      if (!isQuoted[i] && Character.isLetterOrDigit(sentence.charAt(i))) {
+        left.append(sentence.charAt(i));
+      }
+    }
+    return left.toString();
   }
 }

@@ -18,6 +18,15 @@ final class Model {
 
   // ---- common
 
+  /** All that stands, as Check.state tells it of an object. */
+  String state() {
+    StringBuilder all = new StringBuilder();
+    for (int k = 0; k < 4; k++) {
+      all.append(number(longs[k]).toString(16)).append(' ').append(number(shorts[k]).toString(16)).append(' ');
+    }
+    return all + "\"" + hand + "\" knocked " + knocks + " refused " + refused;
+  }
+
   private boolean[] word(boolean isLong, int k) {
     if (k < 0 || k > 3) {
       throw new IndexOutOfBoundsException();

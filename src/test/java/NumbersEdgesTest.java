@@ -1,4 +1,4 @@
-/** The boundaries in promises 28 to 36, sentence by sentence. */
+/** Promises 28 to 36, sentence by sentence, with the boundaries of each. */
 final class NumbersEdgesTest {
   private static final String NO_WORD = "Throws `IndexOutOfBoundsException` if there is no such WORD";
   private static final String NO_WORDS = "Throws `IndexOutOfBoundsException` if there is no such WORD (both)";
@@ -16,7 +16,8 @@ final class NumbersEdgesTest {
     edges.says(29, "A WORD becomes 0 less its NUMBER.", NumbersEdgesTest::negateEnds);
     edges.says(29, TELLS_ONES, NumbersEdgesTest::negateTwice);
     edges.says(29, NO_WORD, NumbersEdgesTest::negateOfNoWord);
-    edges.says(30, "A WORD becomes the product of its NUMBER and that of another one", NumbersEdgesTest::timesAroundTheEnd);
+    edges.says(30, "A WORD becomes the product of its NUMBER and that of another one",
+        NumbersEdgesTest::timesAroundTheEnd);
     edges.says(30, "or (high) that divided by 2^SIZE, rounded down", NumbersEdgesTest::highAroundTheEnd);
     edges.says(30, TELLS_ONES, NumbersEdgesTest::timesItself);
     edges.says(30, NO_WORDS, NumbersEdgesTest::timesOfNoWord);
@@ -27,28 +28,36 @@ final class NumbersEdgesTest {
     edges.says(31, "REFUSED if the other one is EMPTY.", NumbersEdgesTest::divideByEmpty);
     edges.says(31, NO_WORDS, NumbersEdgesTest::divideOfNoWord);
     edges.says(31, NO_WORDS, NumbersEdgesTest::divideByNoWord);
-    edges.says(32, "divided by a small one, rounded down", NumbersEdgesTest::byAroundMultiples);
+    edges.says(32, "A WORD becomes its NUMBER divided by a small one, rounded down",
+        NumbersEdgesTest::byAroundMultiples);
     edges.says(32, "Returns the rest.", NumbersEdgesTest::byEnds);
     edges.says(32, "(no division is done: an inverse is multiplied with)", NumbersEdgesTest::byEachDigit);
     edges.says(32, NO_WORD, NumbersEdgesTest::byOfNoWord);
     edges.says(32, "Throws `IllegalArgumentException` if by is none of these", NumbersEdgesTest::byNoneOfThese);
-    edges.says(33, "that with which its product becomes 1", NumbersEdgesTest::inverseEnds);
+    edges.says(33, "A WORD becomes its INVERSE: that with which its product becomes 1.", NumbersEdgesTest::inverseEnds);
+    edges.says(33, "Returns how many ONES", NumbersEdgesTest::inverseOfEachPower);
     edges.says(33, "REFUSED if its NUMBER is even.", NumbersEdgesTest::inverseOfEven);
     edges.says(33, "REFUSED if its NUMBER is even.", NumbersEdgesTest::inverseOfEmpty);
     edges.says(33, NO_WORD, NumbersEdgesTest::inverseOfNoWord);
+    edges.says(34, "A WORD becomes its NUMBER divided by that of another one, of which it is some whole times as much",
+        NumbersEdgesTest::exactOfMultiples);
     edges.says(34, "of which it is some whole times as much (0 times, too)", NumbersEdgesTest::exactEnds);
     edges.says(34, "as numbers without a bound", NumbersEdgesTest::exactWithoutBound);
+    edges.says(34, "Returns how many ONES", NumbersEdgesTest::exactTellsOnes);
     edges.says(34, NO_EXACT, NumbersEdgesTest::exactNotSo);
     edges.says(34, NO_EXACT, NumbersEdgesTest::exactByEmpty);
     edges.says(34, NO_WORDS, NumbersEdgesTest::exactOfNoWord);
     edges.says(34, NO_WORDS, NumbersEdgesTest::exactByNoWord);
-    edges.says(35, "that has the greater SIGNED number, or the lesser one", NumbersEdgesTest::extremeEnds);
+    edges.says(35,
+        "A WORD becomes that of itself and another one that has the greater SIGNED number, or the lesser one.",
+        NumbersEdgesTest::extremeEnds);
     edges.says(35, "Returns 1 if it became another one, otherwise 0.", NumbersEdgesTest::extremeOfTheSame);
     edges.says(35, NO_WORDS, NumbersEdgesTest::extremeOfNoWord);
     edges.says(35, NO_WORDS, NumbersEdgesTest::extremeWithNoWord);
     edges.says(36, "whether by SIGNED numbers", NumbersEdgesTest::compareSigned);
     edges.says(36, "otherwise by NUMBERS", NumbersEdgesTest::compareUnsigned);
     edges.says(36, "Returns -1, 0 or 1", NumbersEdgesTest::compareOfTheSame);
+    edges.says(36, "as that of a is less, the same, or greater.", NumbersEdgesTest::compareBesideEachPower);
     edges.says(36, NO_WORDS, NumbersEdgesTest::compareOfNoWord);
     edges.says(36, NO_WORDS, NumbersEdgesTest::compareWithNoWord);
     edges.end(28, 36);
@@ -418,6 +427,19 @@ final class NumbersEdgesTest {
     }
   }
 
+  /** (1 + 2^p) (1 - 2^p + 2^2p - 2^3p + ..) is 1, since what stands at SIZE and above is gone. */
+  private static void inverseOfEachPower() {
+    for (boolean isLong : Edges.KINDS) {
+      for (int p = 1; p < Edges.sizeOf(isLong); p++) {
+        long then = 0;
+        for (int n = 0; n * p < Edges.sizeOf(isLong); n++) {
+          then += n % 2 == 0 ? 1L << (n * p) : -(1L << (n * p));
+        }
+        dueInverse(isLong, (1L << p) + 1, then & Edges.all(isLong));
+      }
+    }
+  }
+
   private static void inverseOfEven() {
     for (boolean isLong : Edges.KINDS) {
       Bitwords x = Edges.of(isLong, 2, Edges.top(isLong), Edges.all(isLong) - 1, 6);
@@ -467,6 +489,29 @@ final class NumbersEdgesTest {
       dueExact(isLong, all, middle(isLong) + 1, middle(isLong) - 1);
       Bitwords x = Edges.of(isLong, all);
       edges.makes("by itself", x, isLong, x.exact(isLong, 0, 0), 1, 1);
+    }
+  }
+
+  /** All multiples, or those by a power of 2, that are NUMBERS. */
+  private static void exactOfMultiples() {
+    for (boolean isLong : Edges.KINDS) {
+      for (long other : new long[] {3, 7, 10, middle(isLong) - 1, middle(isLong), middle(isLong) + 1}) {
+        long greatest = Long.divideUnsigned(Edges.all(isLong), other);
+        for (long n = 1; n > 0 && n <= greatest; n *= 2) {
+          dueExact(isLong, n * other, other, n);
+          dueExact(isLong, (greatest - n + 1) * other, other, greatest - n + 1);
+        }
+      }
+    }
+  }
+
+  private static void exactTellsOnes() {
+    for (boolean isLong : Edges.KINDS) {
+      for (int n = 0; n < Edges.sizeOf(isLong); n++) {
+        Bitwords x = Edges.of(isLong, ((1L << n) - 1) << 1, 2);
+        edges.due(Edges.nameOf(isLong) + ", ONES", x.exact(isLong, 0, 1), n);
+        edges.due(Edges.nameOf(isLong) + ", which it has", x.ofWord(isLong, 0, 0), n);
+      }
     }
   }
 
@@ -599,6 +644,18 @@ final class NumbersEdgesTest {
         edges.due("by SIGNED numbers", x.compare(isLong, 0, 1, true), 0);
         edges.due("by NUMBERS", x.compare(isLong, 0, 1, false), 0);
         edges.due("itself", x.compare(isLong, 0, 0, true), 0);
+      }
+    }
+  }
+
+  /** 2^p less 1, 2^p, and 1 more; and each of them with digits that are all the other ones. */
+  private static void compareBesideEachPower() {
+    for (boolean isLong : Edges.KINDS) {
+      long all = Edges.all(isLong);
+      for (int p = 2; p < Edges.sizeOf(isLong) - 1; p++) {
+        long w = 1L << p;
+        dueCompared(isLong, true, new long[] {all ^ (w + 1), all ^ w, all ^ (w - 1), w - 1, w, w + 1});
+        dueCompared(isLong, false, new long[] {w - 1, w, w + 1, all ^ (w + 1), all ^ w, all ^ (w - 1)});
       }
     }
   }

@@ -1,4 +1,4 @@
-/** The boundaries in promises 17 to 27, sentence by sentence. */
+/** Promises 17 to 27, sentence by sentence, with the boundaries of each. */
 final class PlacesEdgesTest {
   private static final String NO_WORD = "Throws `IndexOutOfBoundsException` if there is no such WORD";
   private static final String NO_WORDS = "Throws `IndexOutOfBoundsException` if there is no such WORD (both)";
@@ -15,13 +15,15 @@ final class PlacesEdgesTest {
   private static final Edges edges = new Edges();
 
   public static void main(String[] args) {
-    edges.says(17, "what is at p comes to SIZE - 1 - p", PlacesEdgesTest::reverseEnds);
+    edges.says(17, "A WORD is turned round: what is at p comes to SIZE - 1 - p.", PlacesEdgesTest::reverseEnds);
     edges.says(17, TELLS_LEAST, PlacesEdgesTest::reverseOfEmptyAndAll);
     edges.says(17, NO_WORD, PlacesEdgesTest::reverseOfNoWord);
-    edges.says(18, "(PLACES 0 to 7, 8 to 15, and so on)", PlacesEdgesTest::reverseBytesEnds);
+    edges.says(18, "The bytes of a WORD (PLACES 0 to 7, 8 to 15, and so on)", PlacesEdgesTest::reverseBytesEnds);
+    edges.says(18, "come in the sequence turned round, each as it is", PlacesEdgesTest::reverseBytesOfEach);
     edges.says(18, TELLS_LEAST, PlacesEdgesTest::reverseBytesOfEmptyAndAll);
     edges.says(18, NO_WORD, PlacesEdgesTest::reverseBytesOfNoWord);
-    edges.says(19, "what is at p comes to the rest of p + by by SIZE (from 0 on)", PlacesEdgesTest::rotateEnds);
+    edges.says(19, "A WORD is rotated: what is at p comes to the rest of p + by by SIZE (from 0 on).",
+        PlacesEdgesTest::rotateEnds);
     edges.says(19, "by how much (any number)", PlacesEdgesTest::rotateByFarNumbers);
     edges.says(19, TELLS_LEAST, PlacesEdgesTest::rotateOfEmptyAndAll);
     edges.says(19, NO_WORD, PlacesEdgesTest::rotateOfNoWord);
@@ -29,11 +31,12 @@ final class PlacesEdgesTest {
     edges.says(20, "NONE if there is none.", PlacesEdgesTest::turnsToNone);
     edges.says(20, NO_WORDS, PlacesEdgesTest::turnsToOfNoWord);
     edges.says(20, NO_WORDS, PlacesEdgesTest::turnsToNoWord);
-    edges.says(21, "what comes beyond its PLACES is gone", PlacesEdgesTest::shiftBeyond);
+    edges.says(21, "A WORD is shifted; what comes beyond its PLACES is gone.", PlacesEdgesTest::shiftBeyond);
     edges.says(21, "0 to higher PLACES (0 comes in)", PlacesEdgesTest::shiftUp);
     edges.says(21, "1 to lower ones (0 comes in)", PlacesEdgesTest::shiftDown);
     edges.says(21, "2 to lower ones (each time the digit comes in that was at SIZE - 1)",
         PlacesEdgesTest::shiftDownWithTheSign);
+    edges.says(21, "Returns how many ONES.", PlacesEdgesTest::shiftOfAllByEach);
     edges.says(21, NO_WORD, PlacesEdgesTest::shiftOfNoWord);
     edges.says(21, NO_SHIFT, PlacesEdgesTest::shiftByTooMuch);
     edges.says(21, NO_SHIFT, PlacesEdgesTest::shiftWithoutSense);
@@ -44,7 +47,8 @@ final class PlacesEdgesTest {
     edges.says(23, "SHUFFLES a WORD, or shuffles it back.", PlacesEdgesTest::shuffleEnds);
     edges.says(23, TELLS_LEAST, PlacesEdgesTest::shuffleOfEmptyAndAll);
     edges.says(23, NO_WORD, PlacesEdgesTest::shuffleOfNoWord);
-    edges.says(24, "at 2 * p what the one has at p, at 2 * p + 1 what the other one has there",
+    edges.says(24,
+        "A LONG is woven of two SHORTS: at 2 * p what the one has at p, at 2 * p + 1 what the other one has there",
         PlacesEdgesTest::weaveEnds);
     edges.says(24, "Returns how many ONES.", PlacesEdgesTest::weaveOfEmptyAndAll);
     edges.says(24, NO_LONG, PlacesEdgesTest::weaveOfNoLong);
@@ -56,6 +60,7 @@ final class PlacesEdgesTest {
     edges.says(25, NO_SHORT, PlacesEdgesTest::unweaveFromNoLong);
     edges.says(26, "A WORD becomes its GRAY", PlacesEdgesTest::grayEnds);
     edges.says(26, "or (back) that of which it is the GRAY", PlacesEdgesTest::grayBackEnds);
+    edges.says(26, "Returns how many ONES.", PlacesEdgesTest::grayTellsOnes);
     edges.says(26, NO_WORD, PlacesEdgesTest::grayOfNoWord);
     edges.says(27, "A WORD goes a STEP.", PlacesEdgesTest::stepFromTheGreatest);
     edges.says(27, "Returns the PLACE at which it changed.", PlacesEdgesTest::stepEnds);
@@ -68,7 +73,7 @@ final class PlacesEdgesTest {
   private static void reverseEnds() {
     for (boolean isLong : Edges.KINDS) {
       int last = Edges.sizeOf(isLong) - 1;
-      for (int p : new int[] {0, 1, last / 2, last / 2 + 1, last - 1, last}) {
+      for (int p = 0; p <= last; p++) {
         Bitwords x = Edges.of(isLong, 1L << p);
         edges.makes("of that at " + p, x, isLong, x.reverse(isLong, 0), last - p, 1L << (last - p));
       }
@@ -99,6 +104,21 @@ final class PlacesEdgesTest {
         edges.makes("of that at " + from[i], x, isLong, x.reverseBytes(isLong, 0), to[i], 1L << to[i]);
       }
     }
+  }
+
+  private static void reverseBytesOfEach() {
+    for (boolean isLong : Edges.KINDS) {
+      int size = Edges.sizeOf(isLong);
+      for (int p = 0; p < size; p++) {
+        int to = size - 8 - p / 8 * 8 + p % 8;
+        Bitwords x = Edges.of(isLong, 1L << p);
+        edges.makes("of that at " + p, x, isLong, x.reverseBytes(isLong, 0), to, 1L << to);
+      }
+    }
+    Bitwords x = Edges.of(true, 0x0123456789abcdefL);
+    edges.makes("of eight", x, true, x.reverseBytes(true, 0), 0, 0xefcdab8967452301L);
+    Bitwords y = Edges.of(false, 0x12345678);
+    edges.makes("of four", y, false, y.reverseBytes(false, 0), 1, 0x78563412);
   }
 
   private static void reverseBytesOfEmptyAndAll() {
@@ -263,6 +283,19 @@ final class PlacesEdgesTest {
       dueShifted(isLong, all - top, 1, 2, (all - top) >>> 1);
       dueShifted(isLong, all - top, last, 2, 0);
       dueShifted(isLong, 0, last, 2, 0);
+    }
+  }
+
+  private static void shiftOfAllByEach() {
+    for (boolean isLong : Edges.KINDS) {
+      long all = Edges.all(isLong);
+      int size = Edges.sizeOf(isLong);
+      for (int by = 0; by < size; by++) {
+        dueShifted(isLong, all, by, 0, (all << by) & all);
+        dueShifted(isLong, all, by, 1, all >>> by);
+        dueShifted(isLong, all, by, 2, all);
+        dueShifted(isLong, Edges.top(isLong), by, 2, (all << (size - 1 - by)) & all);
+      }
     }
   }
 
@@ -479,6 +512,19 @@ final class PlacesEdgesTest {
       dueGray(isLong, true, top, all);
       dueGray(isLong, true, top >>> 1, all - top);
       dueGray(isLong, true, all, 0xaaaaaaaaaaaaaaaaL & all);
+    }
+  }
+
+  /** Of the n lowest ONES one is left, of the n highest ones there are two; and one makes n + 1 of itself, back. */
+  private static void grayTellsOnes() {
+    for (boolean isLong : Edges.KINDS) {
+      int size = Edges.sizeOf(isLong);
+      for (int n = 1; n < size; n++) {
+        long lowest = (1L << n) - 1;
+        dueGray(isLong, false, lowest, 1L << (n - 1));
+        dueGray(isLong, false, lowest << (size - n), Edges.top(isLong) | 1L << (size - n - 1));
+        dueGray(isLong, true, 1L << n, (2L << n) - 1);
+      }
     }
   }
 

@@ -1,4 +1,4 @@
-/** The boundaries in promises 37 to 41, sentence by sentence. */
+/** Promises 37 to 41, sentence by sentence, with the boundaries of each. */
 final class PolynomialsEdgesTest {
   private static final String NO_WORD = "Throws `IndexOutOfBoundsException` if there is no such WORD";
   private static final String NO_WORDS = "Throws `IndexOutOfBoundsException` if there is no such WORD (both)";
@@ -11,19 +11,22 @@ final class PolynomialsEdgesTest {
     edges.says(37, "Returns how many ONES.", PolynomialsEdgesTest::timesItself);
     edges.says(37, NO_WORDS, PolynomialsEdgesTest::timesOfNoWord);
     edges.says(37, NO_WORDS, PolynomialsEdgesTest::timesByNoWord);
-    edges.says(38, "A LONG becomes the whole product", PolynomialsEdgesTest::wholeTimesBeyondAShort);
+    edges.says(38, "A LONG becomes the whole product of two SHORTS as POLYNOMIALS.",
+        PolynomialsEdgesTest::wholeTimesBeyondAShort);
     edges.says(38, "Returns DEGREE.", PolynomialsEdgesTest::wholeTimesOfEmptyAndAll);
     edges.says(38, NO_LONG, PolynomialsEdgesTest::wholeTimesOfNoLong);
     edges.says(38, NO_LONG, PolynomialsEdgesTest::wholeTimesOfNoShort);
     edges.says(38, NO_LONG, PolynomialsEdgesTest::wholeTimesByNoShort);
     edges.says(39, "(which has a lesser DEGREE than the other one, or is EMPTY)", PolynomialsEdgesTest::restEnds);
+    edges.says(39, "A WORD is divided by another one as a POLYNOMIAL", PolynomialsEdgesTest::divideMakesItAgain);
     edges.says(39, "it becomes the quotient, or the rest", PolynomialsEdgesTest::divideEnds);
     edges.says(39, "Returns DEGREE; REFUSED if the other one is EMPTY.", PolynomialsEdgesTest::divideByEmpty);
     edges.says(39, "Returns DEGREE", PolynomialsEdgesTest::divideByItself);
     edges.says(39, NO_WORDS, PolynomialsEdgesTest::divideOfNoWord);
     edges.says(39, NO_WORDS, PolynomialsEdgesTest::divideByNoWord);
     edges.says(40, "that of the greatest DEGREE of which both are products", PolynomialsEdgesTest::gcdEnds);
-    edges.says(40, "A WORD becomes the greatest common divisor", PolynomialsEdgesTest::gcdOfTheMostDivisions);
+    edges.says(40, "A WORD becomes the greatest common divisor of it and another one as POLYNOMIALS",
+        PolynomialsEdgesTest::gcdOfTheMostDivisions);
     edges.says(40, "(the other one, if one is EMPTY)", PolynomialsEdgesTest::gcdOfEmpty);
     edges.says(40, "Returns DEGREE.", PolynomialsEdgesTest::gcdOfItself);
     edges.says(40, NO_WORDS, PolynomialsEdgesTest::gcdOfNoWord);
@@ -197,6 +200,28 @@ final class PolynomialsEdgesTest {
       dueDivided(isLong, top, 3, top - 1, 1);
       dueDivided(isLong, all, 3, everyOther(isLong), 0);
     }
+  }
+
+  /** Of each quotient, other one and rest there is just one WORD, if the rest has the lesser DEGREE. */
+  private static void divideMakesItAgain() {
+    for (boolean isLong : Edges.KINDS) {
+      int half = Edges.sizeOf(isLong) / 2;
+      long lower = (1L << half) - 1;
+      for (long other : new long[] {1L << (half - 1), (1L << (half - 1)) + 1, lower, 0x8765L << (half - 16)}) {
+        for (long quotient : new long[] {0, 1, 2, 3, lower, 0x9abcL << (half - 16), 1L << half}) {
+          for (long rest : new long[] {0, 1, other >>> 1, lower >>> 1}) {
+            Bitwords x = Edges.of(isLong, quotient, other, rest);
+            x.polyTimes(isLong, 0, 1);
+            x.mix(isLong, 0, 2, 2);
+            dueDivided(isLong, digitsOf(x, isLong), other, quotient, rest);
+          }
+        }
+      }
+    }
+  }
+
+  private static long digitsOf(Bitwords x, boolean isLong) {
+    return (x.ofWord(isLong, 0, 7) * (1L << 32)) | (x.ofWord(isLong, 0, 6) & 0xffffffffL);
   }
 
   private static void divideByEmpty() {

@@ -1,4 +1,4 @@
-/** The boundaries in promises 9 to 16, sentence by sentence. */
+/** Promises 9 to 16, sentence by sentence, with the boundaries of each. */
 final class SetsEdgesTest {
   private static final String NO_WORD = "Throws `IndexOutOfBoundsException` if there is no such WORD";
   private static final String NO_WORDS = "Throws `IndexOutOfBoundsException` if there is no such WORD (both)";
@@ -9,6 +9,7 @@ final class SetsEdgesTest {
   private static final Edges edges = new Edges();
 
   public static void main(String[] args) {
+    edges.says(9, "A WORD and another one, PLACE by PLACE: and, or, xor, and not.", SetsEdgesTest::mixPlaceByPlace);
     edges.says(9, "0 ONES that both have", SetsEdgesTest::both);
     edges.says(9, "1 that one of them has", SetsEdgesTest::oneOfThem);
     edges.says(9, "2 that just one has", SetsEdgesTest::justOne);
@@ -35,11 +36,14 @@ final class SetsEdgesTest {
     edges.says(14, "2 each ONE of a is one of b", SetsEdgesTest::isPart);
     edges.says(14, "3 a turned round is b", SetsEdgesTest::isTurnedRound);
     edges.says(14, "4 a is b shuffled as often as one likes", SetsEdgesTest::isShuffled);
+    edges.says(14, "Returns whether it is so.", SetsEdgesTest::areSoChangesNothing);
     edges.says(14, NO_WORDS, SetsEdgesTest::areSoOfNoWord);
     edges.says(14, NO_WORDS, SetsEdgesTest::areSoWithNoWord);
     edges.says(14, "Throws `IllegalArgumentException` if what is not 0 to 4", SetsEdgesTest::areSoWithoutSense);
+    edges.says(15, "Of a WORD one ONE stays alone", SetsEdgesTest::onlyOfEachPair);
     edges.says(15, "(none of an EMPTY one)", SetsEdgesTest::onlyOfEmpty);
     edges.says(15, "whether the greatest one, otherwise the least", SetsEdgesTest::onlyEnds);
+    edges.says(15, "Returns how many ONES.", SetsEdgesTest::onlyTellsNoneOrOne);
     edges.says(15, NO_WORD, SetsEdgesTest::onlyOfNoWord);
     edges.says(16, "A WORD becomes the next greater NUMBER that has as many ONES.", SetsEdgesTest::nextSetUpToTheLast);
     edges.says(16, NO_NEXT, SetsEdgesTest::nextSetRefused);
@@ -61,6 +65,24 @@ final class SetsEdgesTest {
       String call = Long.toHexString(w) + " and " + Long.toHexString(other);
       edges.makes(call, x, isLong, x.mix(isLong, 0, 1, how), Edges.onesOf(want[i]), want[i]);
       edges.due(call + ", the other one stays", Check.hex(x, isLong, 1), Long.toHexString(other));
+    }
+  }
+
+  /** What comes of the digits 0 and 0, 0 and 1, 1 and 0, 1 and 1, at each PLACE alone. */
+  private static void mixPlaceByPlace() {
+    int[][] then = {{0, 0, 0, 1}, {0, 1, 1, 1}, {0, 1, 1, 0}, {0, 0, 1, 0}};
+    for (boolean isLong : Edges.KINDS) {
+      for (int p = 0; p < Edges.sizeOf(isLong); p++) {
+        for (int i = 0; i < 16; i++) {
+          int how = i / 4;
+          long w = (i / 2 % 2L) << p;
+          long other = (i % 2L) << p;
+          int want = then[how][i % 4];
+          Bitwords x = Edges.of(isLong, w, other);
+          String call = i / 2 % 2 + " and " + i % 2 + " at " + p + ", how " + how;
+          edges.makes(call, x, isLong, x.mix(isLong, 0, 1, how), want, (long) want << p);
+        }
+      }
     }
   }
 
@@ -309,6 +331,21 @@ final class SetsEdgesTest {
     return place == to;
   }
 
+  /** Nor is it told otherwise the second time. */
+  private static void areSoChangesNothing() {
+    for (boolean isLong : Edges.KINDS) {
+      Bitwords x = Edges.of(isLong, 0, 1, Edges.top(isLong), 2);
+      String before = Check.state(x);
+      boolean[] first = new boolean[80];
+      for (int i = 0; i < 160; i++) {
+        boolean isSo = x.areSo(isLong, i / 20 % 4, i / 5 % 4, i % 5);
+        first[i % 80] = i < 80 ? isSo : first[i % 80];
+        edges.due("what " + i % 5 + " again", isSo, first[i % 80]);
+      }
+      edges.due("what stands then", Check.state(x), before);
+    }
+  }
+
   private static void areSoOfNoWord() {
     edges.wordsEnd((x, isLong, k) -> x.areSo(isLong, k, 0, 4));
     Bitwords x = Edges.busy();
@@ -330,6 +367,32 @@ final class SetsEdgesTest {
   }
 
   // ---- 15 only
+
+  private static void onlyOfEachPair() {
+    for (boolean isLong : Edges.KINDS) {
+      for (int q = 0; q < Edges.sizeOf(isLong); q++) {
+        for (int p = 0; p <= q; p++) {
+          Bitwords x = Edges.of(isLong, 1L << p | 1L << q);
+          edges.makes("the greatest of " + p + " and " + q, x, isLong, x.only(isLong, 0, true), 1, 1L << q);
+          Bitwords y = Edges.of(isLong, 1L << p | 1L << q);
+          edges.makes("the least of " + p + " and " + q, y, isLong, y.only(isLong, 0, false), 1, 1L << p);
+        }
+      }
+    }
+  }
+
+  private static void onlyTellsNoneOrOne() {
+    for (boolean isLong : Edges.KINDS) {
+      for (boolean isHighest : new boolean[] {true, false}) {
+        Bitwords x = Edges.of(isLong, 0, 1, 6, Edges.all(isLong));
+        for (int k = 0; k < 4; k++) {
+          int want = k == 0 ? 0 : 1;
+          edges.due(Edges.nameOf(isLong) + " " + k, x.only(isLong, k, isHighest), want);
+          edges.due("which it has", x.ofWord(isLong, k, 0), want);
+        }
+      }
+    }
+  }
 
   private static void onlyOfEmpty() {
     for (boolean isLong : Edges.KINDS) {

@@ -1,6 +1,6 @@
 import java.math.BigInteger;
 
-/** The boundaries in promises 42 to 50, sentence by sentence. */
+/** Promises 42 to 50, sentence by sentence, with the boundaries of each. */
 final class TextsEdgesTest {
   private static final String SIGNS = "0123456789abcdefghijklmnopqrstuvwxyz-+#";
   private static final String NO_WORD = "Throws `IndexOutOfBoundsException` if there is no such WORD";
@@ -20,10 +20,12 @@ final class TextsEdgesTest {
     edges.says(42, NO_SIGN, TextsEdgesTest::typeNoSignAndTooMuch);
     edges.says(42, TOO_LONG, TextsEdgesTest::typeTo80AndBeyond);
     edges.says(42, TOO_LONG, TextsEdgesTest::typeOneBeyondAtEachPlace);
+    edges.says(43, "The TEXT in HAND becomes \"\".", TextsEdgesTest::noTextOfEachLength);
     edges.says(43, "Returns how long it was.", TextsEdgesTest::noTextEnds);
     edges.says(44, "Returns the TEXT in HAND.", TextsEdgesTest::handEnds);
     edges.says(45, "0 its NUMBER by the BASE 2, 1 by 8, 2 by 16, 3 by 10", TextsEdgesTest::textOfNumbers);
     edges.says(45, "4 its SIGNED number by 10", TextsEdgesTest::textOfSigned);
+    edges.says(45, "Returns its digits, the greatest one first", TextsEdgesTest::textOfEachDigit);
     edges.says(45, "none that is 0 ahead of all others (\"0\" of 0)", TextsEdgesTest::textOfEmpty);
     edges.says(45, "\"-\" ahead of a SIGNED one below 0", TextsEdgesTest::textBelow0);
     edges.says(45, NO_WORD, TextsEdgesTest::textOfNoWord);
@@ -38,17 +40,22 @@ final class TextsEdgesTest {
     edges.says(47, NO_BASE, TextsEdgesTest::carryByNoBase);
     edges.says(48, "A WORD becomes that with the SIGNED number that the TEXT in HAND is", TextsEdgesTest::readEnds);
     edges.says(48, "READ by a BASE", TextsEdgesTest::readAroundTheBase);
+    edges.says(48, "Returns how many ONES", TextsEdgesTest::readTellsOnes);
     edges.says(48, NOT_READ, TextsEdgesTest::readNotSo);
     edges.says(48, NOT_READ, TextsEdgesTest::readBeyond);
     edges.says(48, NOT_READ, TextsEdgesTest::read80Signs);
     edges.says(48, NO_WORD, TextsEdgesTest::readOfNoWord);
     edges.says(48, NO_BASE, TextsEdgesTest::readByNoBase);
     edges.says(49, "A WORD becomes that with the NUMBER that the TEXT in HAND is", TextsEdgesTest::readNumberEnds);
+    edges.says(49, "READ by the BASE 10", TextsEdgesTest::readNumberBy10);
     edges.says(49, "(which must not begin with \"-\"; \"+\" may stand there)", TextsEdgesTest::readNumberWithSign);
+    edges.says(49, "Returns how many ONES", TextsEdgesTest::readNumberTellsOnes);
     edges.says(49, NOT_NUMBER, TextsEdgesTest::readNumberNotSo);
     edges.says(49, NOT_NUMBER, TextsEdgesTest::readNumberBeyond);
     edges.says(49, NOT_NUMBER, TextsEdgesTest::readNumber80Signs);
     edges.says(49, NO_WORD, TextsEdgesTest::readNumberOfNoWord);
+    edges.says(50, "A WORD becomes that with the SIGNED number that the TEXT in HAND is so",
+        TextsEdgesTest::decodeEachWay);
     edges.says(50, "it may begin with \"-\" or \"+\"", TextsEdgesTest::decodeWithSign);
     edges.says(50, "if then comes \"0x\" or \"#\", digits by the BASE 16 stand behind", TextsEdgesTest::decodeBy16);
     edges.says(50, "(no sign there)", TextsEdgesTest::decodeSignBehind);
@@ -56,6 +63,7 @@ final class TextsEdgesTest {
         TextsEdgesTest::decodeBy8);
     edges.says(50, "otherwise digits by 10", TextsEdgesTest::decodeBy10);
     edges.says(50, "one digit or more, and nothing else", TextsEdgesTest::decodeNothingElse);
+    edges.says(50, "Returns how many ONES", TextsEdgesTest::decodeTellsOnes);
     edges.says(50, NOT_DECODED, TextsEdgesTest::decodeNotSo);
     edges.says(50, NOT_DECODED, TextsEdgesTest::decodeBeyond);
     edges.says(50, NOT_DECODED, TextsEdgesTest::decode80Signs);
@@ -153,6 +161,16 @@ final class TextsEdgesTest {
     }
   }
 
+  private static void noTextOfEachLength() {
+    for (int length = 0; length <= 80; length++) {
+      Bitwords x = holding("7".repeat(length));
+      x.noText();
+      edges.due("of " + length, x.hand(), "");
+      edges.due("of " + length + ", how long then", x.house(2), 0);
+      edges.refuses("of " + length + ", READ then", x, () -> x.read(true, 0, 10));
+    }
+  }
+
   private static void noTextEnds() {
     for (int length : new int[] {0, 1, 79, 80}) {
       Bitwords x = holding("#".repeat(length));
@@ -213,6 +231,23 @@ final class TextsEdgesTest {
     for (int k = 0; k < 4; k++) {
       edges.due("LONG " + k, x.text(true, k, 4), longs[k]);
       edges.due("SHORT " + k, x.text(false, k, 4), shorts[k]);
+    }
+  }
+
+  /** A digit at each place of a text, with 0 behind it: base^n, and what is 1 less and 1 more. */
+  private static void textOfEachDigit() {
+    int[] bases = {2, 8, 16, 10};
+    for (boolean isLong : Edges.KINDS) {
+      BigInteger all = half(isLong).shiftLeft(1);
+      for (int what = 0; what < bases.length; what++) {
+        BigInteger base = BigInteger.valueOf(bases[what]);
+        for (BigInteger n = BigInteger.ONE; n.compareTo(all) < 0; n = n.multiply(base)) {
+          for (BigInteger w : new BigInteger[] {n, n.subtract(BigInteger.ONE), n.add(BigInteger.ONE), n.negate()}) {
+            Bitwords x = Edges.of(isLong, w.longValue());
+            edges.due("what " + what + " of " + w, x.text(isLong, 0, what), w.mod(all).toString(bases[what]));
+          }
+        }
+      }
     }
   }
 
@@ -424,6 +459,17 @@ final class TextsEdgesTest {
     }
   }
 
+  private static void readTellsOnes() {
+    for (boolean isLong : Edges.KINDS) {
+      for (int n = 0; n < Edges.sizeOf(isLong); n++) {
+        BigInteger ones = BigInteger.TWO.pow(n).subtract(BigInteger.ONE);
+        dueRead(isLong, n + "", 10, BigInteger.valueOf(n));
+        dueRead(isLong, ones.toString(7), 7, ones);
+        dueRead(isLong, ones.negate().toString(36), 36, ones.negate());
+      }
+    }
+  }
+
   private static void readNotSo() {
     String[] texts = {"", "-", "+", "#", "--", "++", "-+", "+-", "--1", "++1", "-+1", "+-1", "1-", "1+", "1#", "#1", "1-1",
       "1+1", "1#1", "-1-", "-1-1", "+1+", "-#1"};
@@ -519,6 +565,32 @@ final class TextsEdgesTest {
     }
   }
 
+  /** Each digit by 10 at each place, and none that is more. */
+  private static void readNumberBy10() {
+    for (boolean isLong : Edges.KINDS) {
+      for (int zeros = 0; zeros < (isLong ? 19 : 9); zeros++) {
+        for (int digit = 0; digit < 10; digit++) {
+          String text = digit + "0".repeat(zeros);
+          dueNumber(isLong, text, new BigInteger(text));
+        }
+        for (int sign = 10; sign < SIGNS.length(); sign++) {
+          dueNoNumber(isLong, "1" + SIGNS.charAt(sign) + "0".repeat(zeros));
+        }
+      }
+    }
+  }
+
+  private static void readNumberTellsOnes() {
+    for (boolean isLong : Edges.KINDS) {
+      for (int n = 0; n <= Edges.sizeOf(isLong); n++) {
+        BigInteger lowest = BigInteger.TWO.pow(n).subtract(BigInteger.ONE);
+        dueNumber(isLong, lowest.toString(), lowest);
+        BigInteger highest = lowest.shiftLeft(Edges.sizeOf(isLong) - n);
+        dueNumber(isLong, "+" + highest, highest);
+      }
+    }
+  }
+
   private static void readNumberWithSign() {
     for (boolean isLong : Edges.KINDS) {
       BigInteger greatest = half(isLong).shiftLeft(1).subtract(BigInteger.ONE);
@@ -607,6 +679,32 @@ final class TextsEdgesTest {
   private static void dueNotDecoded(boolean isLong, String text) {
     Bitwords x = Check.type(Edges.of(isLong, 0x1234567), text);
     edges.refuses(Edges.nameOf(isLong) + ", " + text, x, () -> x.decode(isLong, 0));
+  }
+
+  /** Numbers around each power of 2, told in each of the four ways, and with each sign. */
+  private static void decodeEachWay() {
+    for (boolean isLong : Edges.KINDS) {
+      for (int p = 0; p < Edges.sizeOf(isLong) - 1; p++) {
+        for (long n = (1L << p) - 1; n <= (1L << p) + 1 && n < Edges.top(isLong) - 1; n++) {
+          String hex = Long.toHexString(n);
+          for (String text : new String[] {Long.toString(n), "0x" + hex, "#" + hex, "0" + Long.toOctalString(n)}) {
+            dueDecoded(isLong, text, n);
+            dueDecoded(isLong, "+" + text, n);
+            dueDecoded(isLong, "-" + text, -n);
+          }
+        }
+      }
+    }
+  }
+
+  private static void decodeTellsOnes() {
+    for (boolean isLong : Edges.KINDS) {
+      for (int n = 0; n < Edges.sizeOf(isLong); n++) {
+        long ones = (1L << n) - 1;
+        dueDecoded(isLong, "0x" + Long.toHexString(ones), ones);
+        dueDecoded(isLong, "-0" + Long.toOctalString(ones), -ones);
+      }
+    }
   }
 
   private static void decodeWithSign() {

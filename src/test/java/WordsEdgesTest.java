@@ -1,4 +1,4 @@
-/** The boundaries in promises 1 to 8, sentence by sentence. */
+/** Promises 1 to 8, sentence by sentence, with the boundaries of each. */
 final class WordsEdgesTest {
   private static final String NO_WORD = "Throws `IndexOutOfBoundsException` if there is no such WORD";
   private static final String NO_WORDS = "Throws `IndexOutOfBoundsException` if there is no such WORD (both)";
@@ -10,6 +10,7 @@ final class WordsEdgesTest {
 
   public static void main(String[] args) {
     edges.says(1, "Creates eight words without ones.", WordsEdgesTest::aNewObject);
+    edges.says(2, "A WORD becomes other digits.", WordsEdgesTest::putOverOthers);
     edges.says(2, "of a LONG: the PLACES 32 to 63, as the SIGNED number of a WORD of 32", WordsEdgesTest::putHigh);
     edges.says(2, "of a SHORT not looked at", WordsEdgesTest::putHighOfAShort);
     edges.says(2, "the PLACES 0 to 31, likewise", WordsEdgesTest::putLow);
@@ -19,18 +20,19 @@ final class WordsEdgesTest {
     edges.says(3, "Returns how many ONES.", WordsEdgesTest::copyOfItself);
     edges.says(3, NO_WORDS, WordsEdgesTest::copyOfNoWord);
     edges.says(3, NO_WORDS, WordsEdgesTest::copyFromNoWord);
-    edges.says(4, "at the PLACES 0 to 31", WordsEdgesTest::widenEnds);
+    edges.says(4, "A LONG gets the digits of a SHORT at the PLACES 0 to 31", WordsEdgesTest::widenEnds);
     edges.says(4, "at the others each time 0, or that at 31", WordsEdgesTest::widenAroundTheSign);
     edges.says(4, "Returns how many ONES.", WordsEdgesTest::widenOfEmptyAndAll);
     edges.says(4, NO_LONG, WordsEdgesTest::widenOfNoLong);
     edges.says(4, NO_LONG, WordsEdgesTest::widenFromNoShort);
-    edges.says(5, "at the PLACES 0 to 31, or 32 to 63", WordsEdgesTest::narrowEnds);
+    edges.says(5, "A SHORT gets the digits of a LONG at the PLACES 0 to 31, or 32 to 63.", WordsEdgesTest::narrowEnds);
     edges.says(5, "Returns how many ONES.", WordsEdgesTest::narrowOfEmptyAndAll);
     edges.says(5, NO_SHORT, WordsEdgesTest::narrowOfNoShort);
     edges.says(5, NO_SHORT, WordsEdgesTest::narrowFromNoLong);
     edges.says(6, "Returns its digit there.", WordsEdgesTest::digitAtTheEnds);
     edges.says(6, NO_PLACE, WordsEdgesTest::digitOfNoWord);
     edges.says(6, NO_PLACE, WordsEdgesTest::digitAtNoPlace);
+    edges.says(7, "A digit becomes another one.", WordsEdgesTest::setEachPlace);
     edges.says(7, "whether it is 1 then", WordsEdgesTest::setAtTheEnds);
     edges.says(7, "Returns the digit that it was.", WordsEdgesTest::setToWhatItIs);
     edges.says(7, NO_PLACE, WordsEdgesTest::setOfNoWord);
@@ -41,10 +43,12 @@ final class WordsEdgesTest {
     edges.says(8, "3 DEGREE", WordsEdgesTest::degree);
     edges.says(8, "4 the least ONE (NONE without)", WordsEdgesTest::leastOne);
     edges.says(8, "5 -1, 0 or 1, as its SIGNED number is below 0, 0, or above", WordsEdgesTest::signOfIt);
-    edges.says(8, "6 its digits at the PLACES 0 to 31 as the SIGNED number of a WORD of 32", WordsEdgesTest::lowerDigits);
+    edges.says(8, "6 its digits at the PLACES 0 to 31 as the SIGNED number of a WORD of 32",
+        WordsEdgesTest::lowerDigits);
     edges.says(8, "7 of a LONG those at 32 to 63 likewise (of a SHORT 0)", WordsEdgesTest::higherDigits);
     edges.says(8, "8 of a LONG the xor of both (of a SHORT as 6)", WordsEdgesTest::xorOfBoth);
     edges.says(8, "9 the least number from 1 on by which it is rotated to itself", WordsEdgesTest::rotatedToItself);
+    edges.says(8, "Returns that.", WordsEdgesTest::ofWordChangesNothing);
     edges.says(8, NO_WORD, WordsEdgesTest::ofNoWord);
     edges.says(8, NO_WHAT, WordsEdgesTest::ofWordWithoutSense);
     edges.end(1, 8);
@@ -62,6 +66,21 @@ final class WordsEdgesTest {
   }
 
   // ---- 2 put
+
+  /** From each of the words to each other one. */
+  private static void putOverOthers() {
+    for (boolean isLong : Edges.KINDS) {
+      long[] words = {0, 1, Edges.top(isLong), 0x5555555555555555L & Edges.all(isLong), Edges.all(isLong)};
+      for (long before : words) {
+        for (long then : words) {
+          Bitwords x = Edges.of(isLong, before);
+          String call = Long.toHexString(then) + " over " + Long.toHexString(before);
+          int answer = x.put(isLong, 0, (int) (then >>> 32), (int) then);
+          edges.makes(call, x, isLong, answer, Edges.onesOf(then), then);
+        }
+      }
+    }
+  }
 
   private static void putHigh() {
     duePut(0, 0);
@@ -141,7 +160,7 @@ final class WordsEdgesTest {
   // ---- 4 widen
 
   private static void widenEnds() {
-    for (int p : new int[] {0, 30}) {
+    for (int p = 0; p < 31; p++) {
       dueWidened(1L << p, false, 1L << p);
       dueWidened(1L << p, true, 1L << p);
     }
@@ -183,6 +202,10 @@ final class WordsEdgesTest {
   // ---- 5 narrow
 
   private static void narrowEnds() {
+    for (int p = 0; p < 32; p++) {
+      dueNarrowed(1L << p, 1L << p, 0);
+      dueNarrowed(1L << (p + 32), 0, 1L << p);
+    }
     dueNarrowed(1L, 1, 0);
     dueNarrowed(1L << 31, 0x80000000L, 0);
     dueNarrowed(1L << 32, 0, 1);
@@ -237,6 +260,22 @@ final class WordsEdgesTest {
   private static void digitAtNoPlace() {
     edges.numbersEnd(0, 63, Check.INDEX, (x, place) -> x.digit(true, 2, place));
     edges.numbersEnd(0, 31, Check.INDEX, (x, place) -> x.digit(false, 2, place));
+  }
+
+  /** Each digit to each of both, with the digits beside it all 0, and all 1. */
+  private static void setEachPlace() {
+    for (boolean isLong : Edges.KINDS) {
+      for (int p = 0; p < Edges.sizeOf(isLong); p++) {
+        long all = Edges.all(isLong);
+        long one = 1L << p;
+        Bitwords x = new Bitwords();
+        edges.makes("0 to 1 at " + p, x, isLong, x.set(isLong, 0, p, true), 0, one);
+        edges.makes("1 to 0 at " + p, x, isLong, x.set(isLong, 0, p, false), 1, 0);
+        Bitwords y = Edges.of(isLong, all);
+        edges.makes("1 to 0 among all at " + p, y, isLong, y.set(isLong, 0, p, false), 1, all ^ one);
+        edges.makes("0 to 1 among all at " + p, y, isLong, y.set(isLong, 0, p, true), 0, all);
+      }
+    }
   }
 
   private static void setAtTheEnds() {
@@ -360,6 +399,19 @@ final class WordsEdgesTest {
     told(false, 0xaaaaaaaaL, 9, 2);
     told(false, 0x00010001L, 9, 16);
     told(false, 0x00010003L, 9, 32);
+  }
+
+  /** Nor does what was told before it. */
+  private static void ofWordChangesNothing() {
+    for (boolean isLong : Edges.KINDS) {
+      Bitwords x = Edges.busy();
+      String before = Check.state(x);
+      for (int i = 0; i < 80; i++) {
+        int k = i / 10 % 4;
+        edges.due("what " + i % 10 + " twice", x.ofWord(isLong, k, i % 10), Edges.busy().ofWord(isLong, k, i % 10));
+      }
+      edges.due("what stands then", Check.state(x), before);
+    }
   }
 
   private static void ofNoWord() {
